@@ -1,0 +1,331 @@
+/** Promises 14 to 17: declarations, their lines and charges, and what a line comes to. */
+public final class DeclarationTest {
+    public static void main(String[] args) {
+        declarations();
+        lineArguments();
+        lineLimits();
+        charges();
+        chargeSpreading();
+        lineOfArguments();
+        kindsOfRates();
+        rounding();
+        greatestNumbers();
+        reducedUnits();
+        firstQuota();
+        assessedNowOrBooked();
+        Run.finish();
+    }
+
+    private static void declarations() {
+        new Run("promise 14").rows("""
+            declare(-1, 0) -> IllegalArgumentException
+            declare(10000, 0) -> IllegalArgumentException
+            declare(0, -1) -> IllegalArgumentException
+            declare(0, 1440) -> IllegalArgumentException
+            declare(9999, 1439) -> 0
+            declare(0, 0) -> 1
+            lineOf(0, 0, 0) -> IllegalArgumentException    # without lines
+            """)
+            .counting(10, "declare(5, 5)", 2)
+            .rows("""
+            declare(5, 5) -> IllegalStateException
+            declare(5, 1440) -> IllegalArgumentException
+            line(11, 0, 0, 1, 0, 8, true) -> 0
+            line(12, 0, 0, 1, 0, 8, true) -> IllegalArgumentException
+            """);
+    }
+
+    private static void lineArguments() {
+        new Run("promise 15").rows("""
+            line(0, 0, 0, 1, 0, 0, true) -> IllegalArgumentException
+            declare(5, 5) -> 0
+            line(-1, 0, 0, 1, 0, 0, true) -> IllegalArgumentException
+            line(1, 0, 0, 1, 0, 0, true) -> IllegalArgumentException
+            line(0, -1, 0, 1, 0, 0, true) -> IllegalArgumentException
+            line(0, 16, 0, 1, 0, 0, true) -> IllegalArgumentException
+            line(0, 0, -1, 1, 0, 0, true) -> IllegalArgumentException
+            line(0, 0, 8, 1, 0, 0, true) -> IllegalArgumentException
+            line(0, 0, 0, 0, 0, 0, true) -> IllegalArgumentException
+            line(0, 0, 0, 1001, 0, 0, true) -> IllegalArgumentException
+            line(0, 0, 0, 1, -1, 0, true) -> IllegalArgumentException
+            line(0, 0, 0, 1, 1000001, 0, true) -> IllegalArgumentException
+            line(0, 0, 0, 1, 0, -1, true) -> IllegalArgumentException
+            line(0, 0, 0, 1, 0, 100000001, true) -> IllegalArgumentException
+            line(0, 15, 7, 1000, 1000000, 100000000, true) -> 0
+            line(0, 0, 0, 1, 0, 0, false) -> 1
+            lineOf(0, 0, 0) -> 100000000
+            lineOf(0, 1, 0) -> 0
+            lineOf(0, 2, 0) -> IllegalArgumentException
+            """);
+    }
+
+    private static void lineLimits() {
+        new Run("promise 15: four lines, not accepted").rows("""
+            heading(-1) -> 0
+            rate(0, -1, 0, 100, 0, 0, 9999) -> 0
+            declare(5, 5) -> 0
+            declare(5, 5) -> 1
+            line(0, 0, 0, 1, 0, 100, true) -> 0
+            line(0, 0, 0, 1, 0, 200, false) -> 1
+            line(0, 0, 0, 1, 0, 300, true) -> 2
+            line(0, 0, 0, 1, 0, 400, false) -> 3
+            line(0, 0, 0, 1, 0, 500, true) -> IllegalStateException
+            line(0, 16, 0, 1, 0, 500, true) -> IllegalArgumentException
+            line(1, 0, 0, 1, 0, 700, true) -> 0
+            lineOf(0, 3, 0) -> 400
+            lineOf(1, 0, 0) -> 700
+            accept(1) -> 7
+            line(1, 0, 0, 1, 0, 1, true) -> IllegalStateException
+            line(1, 0, 0, 0, 0, 1, true) -> IllegalArgumentException
+            lineOf(1, 1, 0) -> IllegalArgumentException
+            lot(0, 4) -> 1
+            """);
+    }
+
+    private static void charges() {
+        new Run("promise 16").rows("""
+            charge(0, 0, 1) -> IllegalArgumentException
+            heading(-1) -> 0
+            rate(0, -1, 0, 10000, 0, 0, 9999) -> 0
+            declare(5, 5) -> 0
+            charge(0, 0, 30) -> done               # before there are lines
+            line(0, 0, 0, 1, 1, 100, false) -> 0
+            lineOf(0, 0, 0) -> 130
+            charge(0, 0, 20) -> done               # set, not added
+            lineOf(0, 0, 0) -> 120
+            charge(0, 1, 3) -> done
+            lineOf(0, 0, 0) -> 123
+            charge(-1, 0, 1) -> IllegalArgumentException
+            charge(1, 0, 1) -> IllegalArgumentException
+            charge(0, -1, 1) -> IllegalArgumentException
+            charge(0, 2, 1) -> IllegalArgumentException
+            charge(0, 0, -1) -> IllegalArgumentException
+            charge(0, 0, 10000001) -> IllegalArgumentException
+            lineOf(0, 0, 0) -> 123
+            charge(0, 1, 10000000) -> done
+            lineOf(0, 0, 0) -> 10000120
+            charge(0, 1, 0) -> done
+            accept(0) -> 120
+            charge(0, 1, 5) -> IllegalStateException
+            charge(0, 2, 5) -> IllegalArgumentException
+            lineOf(0, 0, 0) -> 120
+            """);
+    }
+
+    private static void chargeSpreading() {
+        new Run("promise 17: spreading").rows("""
+            declare(5, 5) -> 0
+            line(0, 0, 0, 1, 1, 0, false) -> 0
+            line(0, 0, 0, 1, 2, 0, false) -> 1
+            line(0, 0, 0, 1, 4, 0, false) -> 2
+            charge(0, 0, 10) -> done               # 1 3/7, 2 6/7, 5 5/7
+            lineOf(0, 0, 0) -> 1
+            lineOf(0, 1, 0) -> 3
+            lineOf(0, 2, 0) -> 6
+            charge(0, 1, 5) -> done                # all prices are 0: 1 2/3 each
+            lineOf(0, 0, 0) -> 3
+            lineOf(0, 1, 0) -> 5
+            lineOf(0, 2, 0) -> 7
+            line(0, 0, 0, 1, 0, 100, false) -> 3
+            lineOf(0, 0, 0) -> 1                   # a weight of 0 among others gets nothing
+            lineOf(0, 1, 0) -> 3
+            lineOf(0, 2, 0) -> 6
+            lineOf(0, 3, 0) -> 105
+            """);
+        new Run("promise 17: the same remainders").rows("""
+            declare(5, 5) -> 0
+            line(0, 0, 0, 1, 9, 50, false) -> 0
+            line(0, 0, 0, 1, 9, 50, false) -> 1
+            line(0, 0, 0, 1, 9, 50, false) -> 2
+            line(0, 0, 0, 1, 9, 50, false) -> 3
+            charge(0, 0, 7) -> done                # 1 3/4 each: three cents are left
+            lineOf(0, 0, 0) -> 52
+            lineOf(0, 1, 0) -> 52
+            lineOf(0, 2, 0) -> 52
+            lineOf(0, 3, 0) -> 51
+            charge(0, 1, 5) -> done                # 1 1/4 each: one is left
+            lineOf(0, 0, 0) -> 54
+            lineOf(0, 1, 0) -> 53
+            lineOf(0, 3, 0) -> 52
+            """);
+        new Run("promise 17: great weights").rows("""
+            declare(5, 5) -> 0
+            line(0, 0, 0, 1, 1000000, 100000000, false) -> 0
+            line(0, 0, 0, 1, 1000000, 100000000, false) -> 1
+            line(0, 0, 0, 1, 1000000, 99999999, false) -> 2
+            charge(0, 0, 10000000) -> done
+            charge(0, 1, 10000000) -> done
+            lineOf(0, 0, 0) -> 106666668           # 3333333 1/3 and a cent; 3333333.34 and a cent
+            lineOf(0, 1, 0) -> 106666666
+            lineOf(0, 2, 0) -> 106666665
+            """);
+    }
+
+    private static void lineOfArguments() {
+        new Run("promise 17: arguments").rows("""
+            declare(5, 5) -> 0
+            line(0, 1, 0, 1, 1, 100, false) -> 0
+            lineOf(-1, 0, 0) -> IllegalArgumentException
+            lineOf(1, 0, 0) -> IllegalArgumentException
+            lineOf(0, -1, 0) -> IllegalArgumentException
+            lineOf(0, 1, 0) -> IllegalArgumentException
+            lineOf(0, 0, -1) -> IllegalArgumentException
+            lineOf(0, 0, 3) -> IllegalArgumentException
+            lineOf(0, 0, 1) -> NoSuchElementException      # no class
+            lineOf(0, 0, 2) -> NoSuchElementException
+            lineOf(0, 0, 0) -> 100
+            heading(-1) -> 0
+            lineOf(0, 0, 2) -> NoSuchElementException      # no rate
+            rate(0, 1, 0, 500, 0, 0, 9999) -> 0
+            lineOf(0, 0, 2) -> NoSuchElementException
+            rate(0, -1, 0, 500, 0, 6, 9999) -> 1
+            lineOf(0, 0, 1) -> NoSuchElementException
+            rate(0, 0, 0, 500, 0, 5, 5) -> 2
+            lineOf(0, 0, 1) -> 0
+            lineOf(0, 0, 2) -> 5
+            line(0, 1, 2, 1, 1, 100, false) -> 1
+            lineOf(0, 0, 2) -> NoSuchElementException      # another line has no rate
+            lineOf(0, 0, 0) -> 100
+            """);
+    }
+
+    private static void kindsOfRates() {
+        new Run("promise 17: kinds of rates").rows("""
+            heading(-1) -> 0
+            rate(0, 0, 0, 500, 20, 0, 9999) -> 0
+            rate(0, 1, 1, 500, 20, 0, 9999) -> 1
+            rate(0, 2, 2, 500, 20, 0, 9999) -> 2
+            rate(0, 3, 3, 500, 20, 0, 9999) -> 3
+            declare(5, 5) -> 0
+            line(0, 0, 0, 3, 4, 1000, false) -> 0
+            line(0, 0, 1, 3, 4, 1000, false) -> 1
+            line(0, 0, 2, 3, 4, 1000, false) -> 2
+            line(0, 0, 3, 3, 4, 1000, false) -> 3
+            lineOf(0, 0, 2) -> 50
+            lineOf(0, 1, 2) -> 80
+            lineOf(0, 2, 2) -> 80
+            lineOf(0, 3, 2) -> 130
+            charge(0, 1, 4000) -> done             # each value is 2000 now
+            lineOf(0, 0, 2) -> 100
+            lineOf(0, 1, 2) -> 80
+            lineOf(0, 2, 2) -> 100
+            lineOf(0, 3, 2) -> 180
+            """);
+    }
+
+    private static void rounding() {
+        new Run("promise 17: halves go up").rows("""
+            heading(-1) -> 0
+            rate(0, -1, 0, 1000, 0, 0, 9999) -> 0
+            quota(0, 1, 1, 0, 0, 9999) -> 0
+            quota(0, 2, 1, 500, 0, 9999) -> 1
+            declare(5, 5) -> 0
+            line(0, 0, 0, 1, 0, 104, false) -> 0   # 10.4
+            line(0, 0, 0, 1, 0, 105, false) -> 1   # 10.5
+            line(0, 0, 1, 3, 0, 1000, false) -> 2  # two thirds of 100
+            line(0, 0, 2, 3, 0, 1013, false) -> 3  # 67.533.. and 16.883..: 84.41..
+            lineOf(0, 0, 2) -> 10
+            lineOf(0, 1, 2) -> 11
+            lineOf(0, 2, 2) -> 67
+            lineOf(0, 3, 2) -> 84
+            """);
+        new Run("promise 17: only the end is rounded").rows("""
+            heading(-1) -> 0
+            rate(0, -1, 3, 1000, 1, 0, 9999) -> 0
+            quota(0, 1, 1, 2000, 0, 9999) -> 0
+            declare(5, 5) -> 0
+            line(0, 0, 1, 2, 0, 4, false) -> 0     # 0.2 and 0.4 are 0.6
+            lineOf(0, 0, 2) -> 1
+            """);
+    }
+
+    private static void greatestNumbers() {
+        new Run("promise 17: the greatest numbers").rows("""
+            heading(-1) -> 0
+            rate(0, -1, 3, 10000, 10000, 0, 9999) -> 0
+            quota(0, 0, 999, 10000, 0, 9999) -> 0
+            declare(5, 5) -> 0
+            line(0, 0, 1, 1000, 1000000, 100000000, true) -> 0
+            charge(0, 0, 10000000) -> done
+            charge(0, 1, 10000000) -> done
+            lineOf(0, 0, 0) -> 120000000
+            lineOf(0, 0, 2) -> 10120000000
+            accept(0) -> 10120000000
+            release(0, 999) -> 10109880000
+            release(0, 1) -> 10120000
+            declare(5, 5) -> 1
+            line(1, 0, 0, 1000, 1000000, 100000000, false) -> 0
+            lineOf(1, 0, 1) -> 999
+            lineOf(1, 0, 2) -> 110000000           # 10100000 and 99900000
+            """);
+    }
+
+    private static void reducedUnits() {
+        new Run("promise 17: reduced units").rows("""
+            heading(-1) -> 0
+            rate(0, -1, 0, 1000, 0, 0, 9999) -> 0
+            quota(0, 0, 10, 100, 0, 9999) -> 0
+            declare(5, 5) -> 0
+            line(0, 0, 0, 6, 0, 600, false) -> 0
+            line(0, 1, 0, 6, 0, 600, false) -> 1
+            line(0, 0, 0, 6, 0, 600, false) -> 2
+            lineOf(0, 0, 1) -> 6
+            lineOf(0, 1, 1) -> 4
+            lineOf(0, 2, 1) -> 0
+            lineOf(0, 0, 2) -> 6
+            lineOf(0, 1, 2) -> 24                  # 2/6 of 60 and 4/6 of 6
+            lineOf(0, 2, 2) -> 60
+            quotaLeft(0) -> 10                     # asking takes nothing
+            """);
+    }
+
+    private static void firstQuota() {
+        new Run("promise 17: a line's quota").rows("""
+            heading(-1) -> 0
+            heading(0) -> 1
+            heading(-1) -> 2
+            note(2, 0, 0, 1) -> 0
+            rate(0, -1, 0, 1000, 0, 0, 9999) -> 0
+            quota(2, 0, 100, 0, 0, 9999) -> 0      # of another heading
+            quota(0, 1, 100, 0, 0, 9999) -> 1      # for another land
+            quota(0, 0, 100, 0, 6, 9999) -> 2      # not yet valid
+            quota(0, 0, 100, 0, 0, 4) -> 3         # no longer valid
+            declare(5, 5) -> 0
+            line(0, 0, 0, 7, 0, 700, false) -> 0
+            classify(0) -> 1
+            lineOf(0, 0, 1) -> 0
+            lineOf(0, 0, 2) -> 70
+            quota(0, 0, 3, 0, 5, 5) -> 4           # of the heading above
+            lineOf(0, 0, 1) -> 3
+            lineOf(0, 0, 2) -> 40
+            quota(1, 0, 100, 0, 0, 9999) -> 5      # nearer, but not the first
+            lineOf(0, 0, 1) -> 3
+            """);
+    }
+
+    private static void assessedNowOrBooked() {
+        new Run("promise 17: now or as booked").rows("""
+            heading(-1) -> 0
+            rate(0, -1, 0, 1000, 0, 0, 9999) -> 0
+            quota(0, 0, 3, 0, 0, 9999) -> 0
+            declare(5, 5) -> 0
+            declare(5, 6) -> 1
+            line(0, 0, 0, 4, 0, 1000, false) -> 0
+            line(1, 0, 0, 4, 0, 1000, false) -> 0
+            lineOf(0, 0, 2) -> 25
+            rate(0, -1, 0, 2000, 0, 0, 9999) -> 1
+            lineOf(0, 0, 2) -> 50
+            lineOf(1, 0, 1) -> 3
+            accept(0) -> 50
+            lineOf(0, 0, 1) -> 3
+            lineOf(1, 0, 1) -> 0
+            rate(0, -1, 0, 3000, 0, 0, 9999) -> 2
+            note(0, 0, 0, 1) -> 0
+            classify(0) -> -1
+            lineOf(0, 0, 0) -> 1000
+            lineOf(0, 0, 1) -> 3
+            lineOf(0, 0, 2) -> 50
+            lineOf(1, 0, 2) -> NoSuchElementException
+            """);
+    }
+}
