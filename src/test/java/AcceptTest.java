@@ -98,6 +98,25 @@ public final class AcceptTest {
             lot(0, 3) -> 6
             lot(4, 3) -> 7
             """);
+        new Run("promise 18: a first declaration that is later").rows("""
+            heading(-1) -> 0
+            rate(0, -1, 0, 1000, 0, 0, 9999) -> 0
+            declare(10, 100) -> 0
+            declare(10, 99) -> 1
+            declare(9, 101) -> 2
+            declare(10, 100) -> 3
+            declare(11, 99) -> 4
+            line(0, 0, 0, 1, 0, 10, false) -> 0
+            line(1, 0, 0, 1, 0, 20, false) -> 0
+            line(2, 0, 0, 1, 0, 30, false) -> 0
+            line(3, 0, 0, 1, 0, 40, false) -> 0
+            line(4, 0, 0, 1, 0, 50, false) -> 0
+            accept(0) -> 1
+            accept(1) -> IllegalStateException
+            accept(2) -> IllegalStateException
+            accept(3) -> 4
+            accept(4) -> 5
+            """);
     }
 
     private static void roomForLots() {

@@ -11,6 +11,7 @@ public final class AmendTest {
         oldQuotaGoesBackInTurn();
         chargesAreSpreadAnew();
         heldAccounts();
+        besideOtherDeclarations();
         Run.finish();
     }
 
@@ -295,6 +296,61 @@ public final class AmendTest {
             release(3, 6) -> 90
             release(3, 1) -> IllegalStateException
             export(3, 20) -> 40
+            """);
+    }
+
+    private static void besideOtherDeclarations() {
+        new Run("promise 19: four lines, and other declarations").rows("""
+            heading(-1) -> 0
+            rate(0, -1, 0, 1000, 0, 0, 9999) -> 0
+            quota(0, 0, 10, 0, 0, 9999) -> 0
+            declare(5, 5) -> 0
+            declare(5, 6) -> 1
+            declare(5, 7) -> 2
+            line(0, 0, 0, 1, 0, 100, false) -> 0
+            line(0, 0, 1, 1, 0, 100, false) -> 1
+            line(0, 0, 1, 1, 0, 100, false) -> 2
+            line(0, 0, 1, 1, 0, 100, false) -> 3
+            line(1, 0, 1, 2, 0, 500, false) -> 0
+            line(2, 0, 0, 8, 0, 800, false) -> 0
+            accept(0) -> 30
+            accept(1) -> 50
+            amend(0, 1, 2, 200) -> 10
+            lot(4, 1) -> 2
+            lot(4, 3) -> 50
+            books(0) -> 90
+            quotaLeft(0) -> 9
+            lineOf(2, 0, 1) -> 8                   # asking about one that is not accepted
+            amend(0, 0, 0, 3) -> 0
+            lineOf(0, 0, 1) -> 3
+            quotaLeft(0) -> 7
+            lineOf(2, 0, 1) -> 7
+            lineOf(2, 0, 2) -> 10
+            amend(1, 0, 2, 0) -> -50
+            lot(4, 3) -> 0
+            lot(3, 3) -> 10
+            quotaLeft(0) -> 7
+            """);
+        new Run("promise 19: lots of declarations that are accepted in another order").rows("""
+            heading(-1) -> 0
+            rate(0, -1, 0, 1000, 0, 0, 9999) -> 0
+            declare(6, 5) -> 0
+            declare(5, 5) -> 1
+            line(0, 0, 1, 3, 0, 100, false) -> 0
+            line(0, 0, 1, 3, 0, 100, false) -> 1
+            line(0, 0, 1, 3, 0, 100, false) -> 2
+            line(0, 0, 1, 3, 0, 100, false) -> 3
+            line(1, 0, 1, 2, 0, 500, false) -> 0
+            accept(1) -> 50
+            accept(0) -> 40
+            amend(1, 0, 2, 600) -> 10
+            lot(0, 3) -> 60
+            lot(1, 1) -> 3
+            lot(1, 3) -> 10
+            books(0) -> 100
+            amend(0, 3, 0, 4) -> 0
+            lot(0, 1) -> 2
+            lot(4, 1) -> 4
             """);
     }
 }

@@ -132,6 +132,17 @@ public final class DeclarationTest {
             lineOf(0, 2, 0) -> 6
             lineOf(0, 3, 0) -> 105
             """);
+        new Run("promise 17: the greatest remainder, not the greatest weight").rows("""
+            declare(5, 5) -> 0
+            line(0, 0, 0, 1, 5, 0, false) -> 0
+            line(0, 0, 0, 1, 2, 1, false) -> 1
+            charge(0, 0, 10) -> done               # 7 1/7, 2 6/7
+            lineOf(0, 0, 0) -> 7
+            lineOf(0, 1, 0) -> 4
+            charge(0, 1, 6) -> done                # a sum of weights of 1
+            lineOf(0, 0, 0) -> 7
+            lineOf(0, 1, 0) -> 10
+            """);
         new Run("promise 17: the same remainders").rows("""
             declare(5, 5) -> 0
             line(0, 0, 0, 1, 9, 50, false) -> 0
@@ -300,6 +311,33 @@ public final class DeclarationTest {
             lineOf(0, 0, 2) -> 40
             quota(1, 0, 100, 0, 0, 9999) -> 5      # nearer, but not the first
             lineOf(0, 0, 1) -> 3
+            """);
+        new Run("promise 17: a quota five headings above").rows("""
+            heading(-1) -> 0
+            heading(0) -> 1
+            heading(1) -> 2
+            heading(2) -> 3
+            heading(3) -> 4
+            heading(4) -> 5
+            rate(5, -1, 0, 1000, 0, 0, 9999) -> 0
+            declare(0, 0) -> 0
+            line(0, 0, 0, 7, 0, 700, false) -> 0
+            lineOf(0, 0, 2) -> 70
+            quota(0, 0, 2, 0, 0, 0) -> 0
+            lineOf(0, 0, 1) -> 2
+            lineOf(0, 0, 2) -> 50
+            """);
+        new Run("promise 17: none of eight quotas")
+            .rows("heading(-1) -> 0")
+            .counting(7, "quota(0, 1, 100, 0, 0, 9999)", 0)
+            .rows("""
+            rate(0, -1, 0, 1000, 0, 0, 9999) -> 0
+            declare(0, 0) -> 0
+            line(0, 0, 0, 7, 0, 700, false) -> 0
+            lineOf(0, 0, 1) -> 0
+            quota(0, 1, 100, 0, 0, 9999) -> 7
+            lineOf(0, 0, 1) -> 0
+            lineOf(0, 0, 2) -> 70
             """);
     }
 

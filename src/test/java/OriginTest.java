@@ -136,6 +136,19 @@ public final class OriginTest {
             rule(2, 1, 1000) -> done
             madeIn(0, 0) -> true
             """);
+        new Run("promise 13: a rule five headings above").rows("""
+            heading(-1) -> 0
+            heading(0) -> 1
+            heading(1) -> 2
+            heading(2) -> 3
+            heading(3) -> 4
+            heading(4) -> 5
+            part(0, 1, 1, 0) -> 1
+            classify(0) -> 5
+            madeIn(0, 0) -> false
+            rule(0, 1, 1000) -> done
+            madeIn(0, 0) -> true
+            """);
     }
 
     private static void changeRule() {

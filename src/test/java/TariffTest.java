@@ -12,6 +12,7 @@ public final class TariffTest {
         mainly();
         notesOfHeadingsAbove();
         depthThenShareThenLast();
+        smallAndOtherShares();
         Run.finish();
     }
 
@@ -226,6 +227,22 @@ public final class TariffTest {
             classify(0) -> 5
             note(4, 2, 1, 1) -> 2
             classify(0) -> 4
+            """);
+    }
+
+    private static void smallAndOtherShares() {
+        new Run("promise 5: a share of 1, and of each good its own").rows("""
+            heading(-1) -> 0
+            heading(-1) -> 1
+            note(0, 2, 0, 1) -> 0
+            fact(0, 0, 1) -> 0
+            classify(0) -> 0                       # 1 against 0
+            note(1, 2, 1, 1) -> 1
+            fact(0, 0, 9) -> 1
+            classify(0) -> 0
+            fact(1, 0, 5) -> 0
+            fact(1, 1, 5) -> 0
+            classify(1) -> 1
             """);
     }
 }
