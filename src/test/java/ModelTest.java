@@ -1,5 +1,3 @@
-import java.lang.reflect.InvocationTargetException;
-import java.lang.reflect.Method;
 import java.util.ArrayList;
 import java.util.List;
 import java.util.Random;
@@ -62,8 +60,8 @@ public final class ModelTest {
             call.append(i == 0 ? "" : ", ").append(arguments[i]);
         }
         call.append(')');
-        String got = answer(desk, name, arguments);
-        String due = answer(model, name, arguments);
+        String got = Run.answer(desk, name, arguments);
+        String due = Run.answer(model, name, arguments);
         calls.add(call + " -> " + due);
         count(name, due);
         if (!got.equals(due)) {
@@ -79,22 +77,6 @@ public final class ModelTest {
         declarations += done && name.equals("declare") ? 1 : 0;
         nextToAccept += done && name.equals("accept") ? 1 : 0;
         lots += done && (name.equals("accept") || name.equals("work")) ? 1 : 0;
-    }
-
-    private static String answer(Object object, String name, Object[] arguments) {
-        for (Method method : object.getClass().getDeclaredMethods()) {
-            if (method.getName().equals(name)) {
-                try {
-                    Object answer = method.invoke(object, arguments);
-                    return answer == null ? "done" : answer.toString();
-                } catch (InvocationTargetException thrown) {
-                    return thrown.getCause().getClass().getSimpleName();
-                } catch (IllegalAccessException hidden) {
-                    throw new IllegalStateException(hidden);
-                }
-            }
-        }
-        throw new IllegalStateException("no method " + name);
     }
 
     private Object[] arguments(String name) {

@@ -77,14 +77,19 @@ final class Run {
         int open = call.indexOf('(');
         String inside = call.substring(open + 1, call.lastIndexOf(')')).trim();
         String[] texts = inside.isEmpty() ? new String[0] : inside.split("\\s*,\\s*");
-        Method method = methodOf(call.substring(0, open));
+        Method method = methodOf(desk, call.substring(0, open));
         Object[] arguments = new Object[texts.length];
         for (int i = 0; i < texts.length; i++) {
             boolean isFlag = method.getParameterTypes()[i] == boolean.class;
             arguments[i] = isFlag ? (Object) Boolean.valueOf(texts[i]) : (Object) Integer.valueOf(texts[i]);
         }
+        return answer(desk, method.getName(), arguments);
+    }
+
+    /** What a call answers, in the words that rows have for it. */
+    static String answer(Object object, String name, Object[] arguments) {
         try {
-            Object answer = method.invoke(desk, arguments);
+            Object answer = methodOf(object, name).invoke(object, arguments);
             return answer == null ? "done" : answer.toString();
         } catch (InvocationTargetException thrown) {
             return thrown.getCause().getClass().getSimpleName();
@@ -93,8 +98,8 @@ final class Run {
         }
     }
 
-    private static Method methodOf(String name) {
-        for (Method method : BorderDesk.class.getDeclaredMethods()) {
+    private static Method methodOf(Object object, String name) {
+        for (Method method : object.getClass().getDeclaredMethods()) {
             if (method.getName().equals(name)) {
                 return method;
             }
