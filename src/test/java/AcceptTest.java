@@ -2,7 +2,6 @@
 public final class AcceptTest {
     public static void main(String[] args) {
         whatAcceptingDoes();
-        whatCannotBeAssessed();
         orderOfAccepting();
         roomForLots();
         Run.finish();
@@ -10,7 +9,6 @@ public final class AcceptTest {
 
     private static void whatAcceptingDoes() {
         new Run("promise 18").rows("""
-            accept(0) -> IllegalArgumentException
             heading(-1) -> 0
             rate(0, -1, 0, 1000, 0, 0, 9999) -> 0
             quota(0, 3, 10, 100, 0, 9999) -> 0
@@ -18,10 +16,7 @@ public final class AcceptTest {
             line(0, 4, 3, 6, 0, 600, false) -> 0
             line(0, 4, 3, 6, 0, 600, true) -> 1
             line(0, 5, 2, 1, 0, 110, false) -> 2
-            accept(1) -> IllegalArgumentException
-            accept(-1) -> IllegalArgumentException
             accept(0) -> 41                        # 6, 24 and 11
-            accept(0) -> IllegalStateException
             quotaLeft(0) -> 0
             books(0) -> 17                         # what is held is not paid
             books(1) -> 0
@@ -41,28 +36,6 @@ public final class AcceptTest {
             lot(3, 0) -> IllegalArgumentException
             account(4, 0) -> 6
             account(5, 0) -> 0
-            """);
-    }
-
-    private static void whatCannotBeAssessed() {
-        new Run("promise 18: cannot be assessed").rows("""
-            declare(5, 5) -> 0
-            accept(0) -> NoSuchElementException            # no lines
-            line(0, 0, 0, 1, 0, 100, false) -> 0
-            accept(0) -> NoSuchElementException            # no class
-            heading(-1) -> 0
-            quota(0, 0, 5, 0, 0, 9999) -> 0
-            accept(0) -> NoSuchElementException            # no rate
-            rate(0, 0, 0, 1000, 0, 5, 5) -> 0
-            line(0, 0, 1, 1, 0, 100, false) -> 1
-            accept(0) -> NoSuchElementException            # no rate for the second line
-            quotaLeft(0) -> 5
-            lot(0, 0) -> IllegalArgumentException
-            books(0) -> 0
-            line(0, 0, 0, 1, 0, 100, false) -> 2           # so it is not accepted
-            rate(0, 1, 0, 1000, 0, 5, 5) -> 1
-            accept(0) -> 10
-            quotaLeft(0) -> 3
             """);
     }
 
@@ -163,22 +136,6 @@ public final class AcceptTest {
             account(0, 3) -> 2
             lot(39, 1) -> 1
             lot(40, 0) -> IllegalArgumentException
-            """);
-        new Run("promise 18: what cannot be assessed comes before the lots").rows("""
-            heading(-1) -> 0
-            note(0, 1, 0, 1) -> 0
-            rate(0, -1, 0, 1000, 0, 0, 9999) -> 0
-            declare(1, 1) -> 0
-            declare(2, 1) -> 1
-            line(0, 0, 0, 1000, 0, 10, true) -> 0
-            line(1, 0, 0, 1, 0, 10, true) -> 0
-            accept(0) -> 1
-            """)
-            .counting(39, "work(0, 1, 1, 1)", 1)
-            .rows("""
-            accept(1) -> UnsupportedOperationException
-            fact(0, 0, 1) -> 0
-            accept(1) -> NoSuchElementException
             """);
     }
 }

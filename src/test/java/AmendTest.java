@@ -1,8 +1,6 @@
 /** Promise 19: amending accepted declarations. */
 public final class AmendTest {
     public static void main(String[] args) {
-        arguments();
-        states();
         fieldsAndDifferences();
         classesAndRatesAsTheyAreNow();
         surplusGoesBackFirst();
@@ -13,88 +11,6 @@ public final class AmendTest {
         heldAccounts();
         besideOtherDeclarations();
         Run.finish();
-    }
-
-    private static void arguments() {
-        new Run("promise 19: arguments").rows("""
-            amend(0, 0, 0, 1) -> IllegalArgumentException
-            heading(-1) -> 0
-            rate(0, -1, 0, 1000, 0, 0, 9999) -> 0
-            declare(5, 5) -> 0
-            line(0, 0, 0, 5, 7, 100, false) -> 0
-            amend(0, 1, 0, 1) -> IllegalArgumentException
-            amend(0, 0, 0, 1) -> IllegalStateException     # not accepted
-            amend(0, 0, 3, 1) -> IllegalArgumentException
-            accept(0) -> 10
-            amend(-1, 0, 0, 1) -> IllegalArgumentException
-            amend(1, 0, 0, 1) -> IllegalArgumentException
-            amend(0, -1, 0, 1) -> IllegalArgumentException
-            amend(0, 1, 0, 1) -> IllegalArgumentException
-            amend(0, 0, -1, 1) -> IllegalArgumentException
-            amend(0, 0, 3, 1) -> IllegalArgumentException
-            amend(0, 0, 0, 0) -> IllegalArgumentException
-            amend(0, 0, 0, 1001) -> IllegalArgumentException
-            amend(0, 0, 1, -1) -> IllegalArgumentException
-            amend(0, 0, 1, 1000001) -> IllegalArgumentException
-            amend(0, 0, 2, -1) -> IllegalArgumentException
-            amend(0, 0, 2, 100000001) -> IllegalArgumentException
-            lot(0, 1) -> 5
-            lot(0, 3) -> 10
-            amend(0, 0, 0, 1000) -> 0
-            amend(0, 0, 0, 1) -> 0
-            amend(0, 0, 1, 1000000) -> 0
-            amend(0, 0, 1, 0) -> 0
-            amend(0, 0, 2, 100000000) -> 9999990
-            amend(0, 0, 2, 0) -> -10000000
-            lot(0, 1) -> 1
-            lot(0, 3) -> 0
-            books(0) -> 0
-            """);
-    }
-
-    private static void states() {
-        new Run("promise 19: gone units").rows("""
-            heading(-1) -> 0
-            note(0, 1, 0, 1) -> 0
-            rate(0, -1, 0, 1000, 0, 0, 9999) -> 0
-            declare(5, 5) -> 0
-            declare(5, 6) -> 1
-            line(0, 0, 0, 5, 0, 100, false) -> 0
-            line(0, 1, 0, 5, 0, 100, true) -> 1
-            line(1, 2, 0, 5, 0, 100, true) -> 0
-            accept(0) -> 20
-            accept(1) -> 10
-            release(2, 1) -> 2
-            amend(1, 0, 2, 200) -> IllegalStateException
-            amend(0, 0, 2, 200) -> 10              # of another declaration nothing is gone
-            export(0, 1) -> 4
-            amend(0, 0, 2, 300) -> IllegalStateException
-            amend(0, 1, 2, 300) -> IllegalStateException   # nor its other lines
-            fact(0, 0, 1) -> 0
-            amend(0, 1, 2, 300) -> IllegalStateException   # this comes first
-            lot(0, 3) -> 20
-            lot(1, 3) -> 10
-            books(0) -> 22
-            """);
-        new Run("promise 19: cannot be assessed").rows("""
-            heading(-1) -> 0
-            note(0, 1, 0, 1) -> 0
-            rate(0, -1, 0, 1000, 0, 0, 9999) -> 0
-            quota(0, 0, 10, 0, 0, 9999) -> 0
-            declare(5, 5) -> 0
-            line(0, 0, 0, 5, 0, 100, false) -> 0
-            line(0, 1, 0, 6, 0, 100, false) -> 1
-            accept(0) -> 2                         # 1/6 of 10
-            fact(1, 0, 1) -> 0
-            amend(0, 0, 0, 2) -> NoSuchElementException
-            lineOf(0, 0, 1) -> 5
-            lot(0, 1) -> 5
-            quotaLeft(0) -> 0
-            books(0) -> 2
-            fact(1, 0, 0) -> 1
-            amend(0, 0, 0, 2) -> -2
-            quotaLeft(0) -> 2
-            """);
     }
 
     private static void fieldsAndDifferences() {

@@ -1,12 +1,7 @@
-/** Promises 14 to 17: declarations, their lines and charges, and what a line comes to. */
+/** Promises 14 to 17: what the lines of a declaration come to. */
 public final class DeclarationTest {
     public static void main(String[] args) {
-        declarations();
-        lineArguments();
-        lineLimits();
-        charges();
         chargeSpreading();
-        lineOfArguments();
         kindsOfRates();
         rounding();
         greatestNumbers();
@@ -14,102 +9,6 @@ public final class DeclarationTest {
         firstQuota();
         assessedNowOrBooked();
         Run.finish();
-    }
-
-    private static void declarations() {
-        new Run("promise 14").rows("""
-            declare(-1, 0) -> IllegalArgumentException
-            declare(10000, 0) -> IllegalArgumentException
-            declare(0, -1) -> IllegalArgumentException
-            declare(0, 1440) -> IllegalArgumentException
-            declare(9999, 1439) -> 0
-            declare(0, 0) -> 1
-            lineOf(0, 0, 0) -> IllegalArgumentException    # without lines
-            """)
-            .counting(10, "declare(5, 5)", 2)
-            .rows("""
-            declare(5, 5) -> IllegalStateException
-            declare(5, 1440) -> IllegalArgumentException
-            line(11, 0, 0, 1, 0, 8, true) -> 0
-            line(12, 0, 0, 1, 0, 8, true) -> IllegalArgumentException
-            """);
-    }
-
-    private static void lineArguments() {
-        new Run("promise 15").rows("""
-            line(0, 0, 0, 1, 0, 0, true) -> IllegalArgumentException
-            declare(5, 5) -> 0
-            line(-1, 0, 0, 1, 0, 0, true) -> IllegalArgumentException
-            line(1, 0, 0, 1, 0, 0, true) -> IllegalArgumentException
-            line(0, -1, 0, 1, 0, 0, true) -> IllegalArgumentException
-            line(0, 16, 0, 1, 0, 0, true) -> IllegalArgumentException
-            line(0, 0, -1, 1, 0, 0, true) -> IllegalArgumentException
-            line(0, 0, 8, 1, 0, 0, true) -> IllegalArgumentException
-            line(0, 0, 0, 0, 0, 0, true) -> IllegalArgumentException
-            line(0, 0, 0, 1001, 0, 0, true) -> IllegalArgumentException
-            line(0, 0, 0, 1, -1, 0, true) -> IllegalArgumentException
-            line(0, 0, 0, 1, 1000001, 0, true) -> IllegalArgumentException
-            line(0, 0, 0, 1, 0, -1, true) -> IllegalArgumentException
-            line(0, 0, 0, 1, 0, 100000001, true) -> IllegalArgumentException
-            line(0, 15, 7, 1000, 1000000, 100000000, true) -> 0
-            line(0, 0, 0, 1, 0, 0, false) -> 1
-            lineOf(0, 0, 0) -> 100000000
-            lineOf(0, 1, 0) -> 0
-            lineOf(0, 2, 0) -> IllegalArgumentException
-            """);
-    }
-
-    private static void lineLimits() {
-        new Run("promise 15: four lines, not accepted").rows("""
-            heading(-1) -> 0
-            rate(0, -1, 0, 100, 0, 0, 9999) -> 0
-            declare(5, 5) -> 0
-            declare(5, 5) -> 1
-            line(0, 0, 0, 1, 0, 100, true) -> 0
-            line(0, 0, 0, 1, 0, 200, false) -> 1
-            line(0, 0, 0, 1, 0, 300, true) -> 2
-            line(0, 0, 0, 1, 0, 400, false) -> 3
-            line(0, 0, 0, 1, 0, 500, true) -> IllegalStateException
-            line(0, 16, 0, 1, 0, 500, true) -> IllegalArgumentException
-            line(1, 0, 0, 1, 0, 700, true) -> 0
-            lineOf(0, 3, 0) -> 400
-            lineOf(1, 0, 0) -> 700
-            accept(1) -> 7
-            line(1, 0, 0, 1, 0, 1, true) -> IllegalStateException
-            line(1, 0, 0, 0, 0, 1, true) -> IllegalArgumentException
-            lineOf(1, 1, 0) -> IllegalArgumentException
-            lot(0, 4) -> 1
-            """);
-    }
-
-    private static void charges() {
-        new Run("promise 16").rows("""
-            charge(0, 0, 1) -> IllegalArgumentException
-            heading(-1) -> 0
-            rate(0, -1, 0, 10000, 0, 0, 9999) -> 0
-            declare(5, 5) -> 0
-            charge(0, 0, 30) -> done               # before there are lines
-            line(0, 0, 0, 1, 1, 100, false) -> 0
-            lineOf(0, 0, 0) -> 130
-            charge(0, 0, 20) -> done               # set, not added
-            lineOf(0, 0, 0) -> 120
-            charge(0, 1, 3) -> done
-            lineOf(0, 0, 0) -> 123
-            charge(-1, 0, 1) -> IllegalArgumentException
-            charge(1, 0, 1) -> IllegalArgumentException
-            charge(0, -1, 1) -> IllegalArgumentException
-            charge(0, 2, 1) -> IllegalArgumentException
-            charge(0, 0, -1) -> IllegalArgumentException
-            charge(0, 0, 10000001) -> IllegalArgumentException
-            lineOf(0, 0, 0) -> 123
-            charge(0, 1, 10000000) -> done
-            lineOf(0, 0, 0) -> 10000120
-            charge(0, 1, 0) -> done
-            accept(0) -> 120
-            charge(0, 1, 5) -> IllegalStateException
-            charge(0, 2, 5) -> IllegalArgumentException
-            lineOf(0, 0, 0) -> 120
-            """);
     }
 
     private static void chargeSpreading() {
@@ -169,34 +68,6 @@ public final class DeclarationTest {
             lineOf(0, 0, 0) -> 106666668           # 3333333 1/3 and a cent; 3333333.34 and a cent
             lineOf(0, 1, 0) -> 106666666
             lineOf(0, 2, 0) -> 106666665
-            """);
-    }
-
-    private static void lineOfArguments() {
-        new Run("promise 17: arguments").rows("""
-            declare(5, 5) -> 0
-            line(0, 1, 0, 1, 1, 100, false) -> 0
-            lineOf(-1, 0, 0) -> IllegalArgumentException
-            lineOf(1, 0, 0) -> IllegalArgumentException
-            lineOf(0, -1, 0) -> IllegalArgumentException
-            lineOf(0, 1, 0) -> IllegalArgumentException
-            lineOf(0, 0, -1) -> IllegalArgumentException
-            lineOf(0, 0, 3) -> IllegalArgumentException
-            lineOf(0, 0, 1) -> NoSuchElementException      # no class
-            lineOf(0, 0, 2) -> NoSuchElementException
-            lineOf(0, 0, 0) -> 100
-            heading(-1) -> 0
-            lineOf(0, 0, 2) -> NoSuchElementException      # no rate
-            rate(0, 1, 0, 500, 0, 0, 9999) -> 0
-            lineOf(0, 0, 2) -> NoSuchElementException
-            rate(0, -1, 0, 500, 0, 6, 9999) -> 1
-            lineOf(0, 0, 1) -> NoSuchElementException
-            rate(0, 0, 0, 500, 0, 5, 5) -> 2
-            lineOf(0, 0, 1) -> 0
-            lineOf(0, 0, 2) -> 5
-            line(0, 1, 2, 1, 1, 100, false) -> 1
-            lineOf(0, 0, 2) -> NoSuchElementException      # another line has no rate
-            lineOf(0, 0, 0) -> 100
             """);
     }
 

@@ -5,7 +5,6 @@ import java.util.Random;
 /** Compares the program with the model over runs of made-up calls; the same ones each time. */
 public final class ModelTest {
     private static final int RUNS = 2000;
-    private static final int CALLS = 512;
 
     /** Names that stand more often are called more often. */
     private static final String[] NAMES = {
@@ -45,7 +44,7 @@ public final class ModelTest {
         if (!same) {
             return false;
         }
-        for (int i = 3; i < CALLS; i++) {
+        for (int i = 3; i < Run.MOST_CALLS; i++) {
             String name = NAMES[random.nextInt(NAMES.length)];
             if (!agreeOn(name, arguments(name))) {
                 return false;
@@ -55,13 +54,9 @@ public final class ModelTest {
     }
 
     private boolean agreeOn(String name, Object[] arguments) {
-        StringBuilder call = new StringBuilder(name).append('(');
-        for (int i = 0; i < arguments.length; i++) {
-            call.append(i == 0 ? "" : ", ").append(arguments[i]);
-        }
-        call.append(')');
-        String got = Run.answer(desk, name, arguments);
-        String due = Run.answer(model, name, arguments);
+        Call call = new Call(name, arguments);
+        String got = call.answerOf(desk);
+        String due = call.answerOf(model);
         calls.add(call + " -> " + due);
         count(name, due);
         if (!got.equals(due)) {
@@ -72,7 +67,7 @@ public final class ModelTest {
     }
 
     private void count(String name, String due) {
-        boolean done = !due.endsWith("Exception");
+        boolean done = !Call.isRefusal(due);
         headings += done && name.equals("heading") ? 1 : 0;
         declarations += done && name.equals("declare") ? 1 : 0;
         nextToAccept += done && name.equals("accept") ? 1 : 0;

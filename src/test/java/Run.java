@@ -1,19 +1,21 @@
-import java.lang.reflect.InvocationTargetException;
-import java.lang.reflect.Method;
+import java.util.ArrayList;
+import java.util.List;
 
 /**
  * A run of calls on a new desk, told in rows such as "heading(-1) -> 0". What stands behind the
  * arrow is the answer that is due: a number, true or false, done (for a call without an answer)
- * or the name of the exception. Text behind a # is a remark.
+ * or the name of the exception; then it is seen too that the call has changed nothing. Text behind
+ * a # is a remark.
  */
 final class Run {
     /** The document promises nothing about an object after so many calls. */
-    private static final int MOST_CALLS = 512;
+    static final int MOST_CALLS = 512;
 
     private static int wrong = 0;
 
     private final BorderDesk desk = new BorderDesk();
     private final String name;
+    private final List<Call> done = new ArrayList<>();
     private int calls = 0;
 
     Run(String name) {
@@ -46,6 +48,15 @@ final class Run {
         return this;
     }
 
+    /** The ? in a call stands for a number that is allowed from a least to a most one only. */
+    Run only(int least, int most, String call) {
+        int[] none = {least - 1, most + 1, Integer.MIN_VALUE, Integer.MAX_VALUE};
+        for (int number : none) {
+            row(call.replace("?", Integer.toString(number)) + " -> IllegalArgumentException");
+        }
+        return this;
+    }
+
     /** Ends the program with exit code 1 if an answer of any run was not the one that was due. */
     static void finish() {
         if (wrong > 0) {
@@ -61,49 +72,23 @@ final class Run {
 
     private void row(String row) {
         String[] sides = row.split("->");
-        String call = sides[0].trim();
+        Call call = Call.read(sides[0]);
         String due = sides[1].trim();
         calls++;
         if (calls > MOST_CALLS) {
             fault(name + ": too many calls for one object");
         }
-        String answer = answerOf(call);
+        String answer = call.answerOf(desk);
         if (!answer.equals(due)) {
             fault(name + ": " + call + " answered " + answer + ", due is " + due);
         }
-    }
-
-    private String answerOf(String call) {
-        int open = call.indexOf('(');
-        String inside = call.substring(open + 1, call.lastIndexOf(')')).trim();
-        String[] texts = inside.isEmpty() ? new String[0] : inside.split("\\s*,\\s*");
-        Method method = methodOf(desk, call.substring(0, open));
-        Object[] arguments = new Object[texts.length];
-        for (int i = 0; i < texts.length; i++) {
-            boolean isFlag = method.getParameterTypes()[i] == boolean.class;
-            arguments[i] = isFlag ? (Object) Boolean.valueOf(texts[i]) : (Object) Integer.valueOf(texts[i]);
+        if (!Call.isRefusal(due)) {
+            done.add(call);
+            return;
         }
-        return answer(desk, method.getName(), arguments);
-    }
-
-    /** What a call answers, in the words that rows have for it. */
-    static String answer(Object object, String name, Object[] arguments) {
-        try {
-            Object answer = methodOf(object, name).invoke(object, arguments);
-            return answer == null ? "done" : answer.toString();
-        } catch (InvocationTargetException thrown) {
-            return thrown.getCause().getClass().getSimpleName();
-        } catch (IllegalAccessException hidden) {
-            throw new IllegalStateException(hidden);
+        String change = Refusal.changeBy(call, done);
+        if (change != null) {
+            fault(name + ": " + call + " was refused, but: " + change);
         }
-    }
-
-    private static Method methodOf(Object object, String name) {
-        for (Method method : object.getClass().getDeclaredMethods()) {
-            if (method.getName().equals(name)) {
-                return method;
-            }
-        }
-        throw new IllegalStateException("no method " + name);
     }
 }

@@ -1,13 +1,7 @@
-/** Promises 1 to 5: a new object, headings, notes, facts and classes. */
+/** Promises 1 and 5: a new object, and the classes of goods by headings, notes and facts. */
 public final class TariffTest {
     public static void main(String[] args) {
         newObject();
-        headings();
-        headingLimits();
-        notes();
-        noteLimit();
-        facts();
-        wrongGoods();
         needsAndBars();
         mainly();
         notesOfHeadingsAbove();
@@ -43,107 +37,6 @@ public final class TariffTest {
             note(0, 1, 0, 1) -> 0
             quota(0, 0, 1, 0, 0, 0) -> 0
             declare(0, 0) -> 0
-            """);
-    }
-
-    private static void headings() {
-        new Run("promise 2").rows("""
-            heading(0) -> IllegalArgumentException
-            heading(-2) -> IllegalArgumentException
-            heading(-1) -> 0
-            heading(1) -> IllegalArgumentException
-            heading(0) -> 1
-            heading(1) -> 2
-            heading(2) -> 3
-            heading(3) -> 4
-            heading(4) -> 5
-            heading(5) -> IllegalStateException    # its depth would be 6
-            heading(6) -> IllegalArgumentException
-            heading(4) -> 6
-            heading(6) -> IllegalStateException
-            heading(-1) -> 7
-            heading(7) -> 8
-            """);
-    }
-
-    private static void headingLimits() {
-        new Run("promise 2: 24 headings")
-            .counting(24, "heading(-1)", 0)
-            .rows("""
-            heading(-1) -> IllegalStateException
-            heading(0) -> IllegalStateException
-            heading(24) -> IllegalArgumentException
-            heading(-2) -> IllegalArgumentException
-            classify(0) -> 23
-            """);
-    }
-
-    private static void notes() {
-        new Run("promise 3").rows("""
-            heading(-1) -> 0
-            note(1, 0, 0, 1) -> IllegalArgumentException
-            note(-1, 0, 0, 1) -> IllegalArgumentException
-            note(0, -1, 0, 1) -> IllegalArgumentException
-            note(0, 3, 0, 1) -> IllegalArgumentException
-            note(0, 0, -1, 1) -> IllegalArgumentException
-            note(0, 0, 8, 1) -> IllegalArgumentException
-            note(0, 0, 0, 0) -> IllegalArgumentException
-            note(0, 0, 0, 1001) -> IllegalArgumentException
-            note(0, 2, 4, 1) -> IllegalArgumentException
-            note(0, 2, -1, 1) -> IllegalArgumentException
-            classify(0) -> 0                       # none of these was given
-            note(0, 1, 7, 1) -> 0
-            note(0, 1, 0, 1000) -> 1
-            classify(0) -> 0
-            note(0, 2, 3, 1) -> 2
-            classify(0) -> -1
-            fact(0, 3, 1) -> 0
-            classify(0) -> 0
-            note(0, 0, 7, 1000) -> 3
-            classify(0) -> -1
-            """);
-    }
-
-    private static void noteLimit() {
-        new Run("promise 3: 40 notes")
-            .rows("heading(-1) -> 0")
-            .counting(40, "note(0, 1, 0, 1000)", 0)
-            .rows("""
-            note(0, 0, 0, 1) -> IllegalStateException
-            note(0, 2, 4, 1) -> IllegalArgumentException
-            note(1, 0, 0, 1) -> IllegalArgumentException
-            classify(0) -> 0
-            """);
-    }
-
-    private static void facts() {
-        new Run("promise 4").rows("""
-            fact(0, 0, 1000) -> 0
-            fact(0, 0, 1001) -> IllegalArgumentException
-            fact(0, 0, -1) -> IllegalArgumentException
-            fact(0, 0, 5) -> 1000
-            fact(0, 0, 0) -> 5
-            fact(0, 0, 7) -> 0
-            fact(0, 1, 8) -> 0
-            fact(1, 0, 9) -> 0
-            fact(15, 7, 3) -> 0
-            fact(0, 0, 7) -> 7
-            fact(0, 1, 8) -> 8
-            fact(1, 0, 9) -> 9
-            fact(15, 7, 0) -> 3
-            fact(-1, 0, 0) -> IllegalArgumentException
-            fact(16, 0, 0) -> IllegalArgumentException
-            fact(0, -1, 0) -> IllegalArgumentException
-            fact(0, 8, 0) -> IllegalArgumentException
-            """);
-    }
-
-    private static void wrongGoods() {
-        new Run("promise 5: goods").rows("""
-            heading(-1) -> 0
-            classify(-1) -> IllegalArgumentException
-            classify(16) -> IllegalArgumentException
-            classify(15) -> 0
             """);
     }
 
