@@ -425,13 +425,15 @@ public final class BorderDesk {
                 fits[heading] = true;
                 share[heading] = 0;
             }
+            int greatest = greatestMaterial(good);
             for (int note = 0; note < notes; note++) {
                 int heading = noteHeading[note];
-                if (!holds(note, good)) {
+                int amount = amounts[good][noteFact[note]];
+                if (!holds(note, amount, greatest)) {
                     fits[heading] = false;
                 }
                 if (noteKind[note] == MAINLY) {
-                    share[heading] = Math.max(share[heading], amounts[good][noteFact[note]]);
+                    share[heading] = Math.max(share[heading], amount);
                 }
             }
         }
@@ -451,12 +453,11 @@ public final class BorderDesk {
             return share[heading] >= share[best];
         }
 
-        private boolean holds(int note, int good) {
-            int amount = amounts[good][noteFact[note]];
+        private boolean holds(int note, int amount, int greatest) {
             switch (noteKind[note]) {
                 case NEEDS: return amount >= noteAmount[note];
                 case BARS: return amount < noteAmount[note];
-                default: return amount >= noteAmount[note] && amount >= greatestMaterial(good);
+                default: return amount >= noteAmount[note] && amount >= greatest;
             }
         }
 
